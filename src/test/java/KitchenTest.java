@@ -13,6 +13,7 @@ public final class KitchenTest {
         faultsOfMany();
         firstFaultThenLeast();
         faultLeavesAll();
+        earlierTextsLeaveNothing();
         kitchenAnew();
         told();
         word();
@@ -242,6 +243,29 @@ public final class KitchenTest {
         DUE.is("a FAULT leaves images", box.goBack(1), 1);
         DUE.is("a good text behind it", Due.tell(box, "b1 1 1;"), 0);
         DUE.is("its place", box.fault(), -1);
+    }
+
+    private static void earlierTextsLeaveNothing() {
+        BeansBox box = Due.box("b1 2 3;w1 2 3;v1;v2;");
+        Due.tell(box, "b4 5 6;w4 5 6;v4;v5;v6;");
+        DUE.is("kitchen of blanks", Due.tell(box, " "), 0);
+        for (int what = 0; what <= 4; what++) {
+            DUE.is("told(" + what + ") behind two kitchens and blanks", box.told(what), 0);
+        }
+        DUE.is("a FAULT behind VOICES", Due.tell(box, "b1 2 3;v1;v2;v3;v4;x"), -11);
+        DUE.is("a KITCHEN behind it", Due.tell(box, "b1 2 3;v7;"), 0);
+        DUE.is("its VOICES", box.told(4), 1);
+        DUE.is("its VOICE", box.voice(0), 7);
+        DUE.is("a longer text", Due.tell(box, "b1 2 3;v99;"), 0);
+        DUE.is("letters of the longer text are gone", Due.tell(box, "b1 2 3"), -11);
+        DUE.is("the end", box.fault(), 6);
+        DUE.is("a longer text", Due.tell(box, "b1 2 3;v99;"), 0);
+        DUE.is("figures of the longer text are gone", Due.tell(box, "b1 2 3;v9"), -11);
+        DUE.is("the end", box.fault(), 9);
+        bad("b1 2 3" + " ".repeat(234), 1, 240);
+        bad("b1 2" + " ".repeat(236), 1, 240);
+        bad("b1 2 3;" + "v" + " ".repeat(229) + "999", 1, 240);
+        good("b1 2 3" + " ".repeat(233) + ";", 0, 0);
     }
 
     private static void kitchenAnew() {

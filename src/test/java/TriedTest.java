@@ -51,6 +51,7 @@ public final class TriedTest {
             learnt.letBe();
         }
         DUE.is("USUAL now", learnt.guess(104), 1);
+        DUE.is("a WEIGHT of 1", Due.box("b0 0 0;w0 0 0;").guess(999), 0);
         DUE.is("no WORDS", Due.box("b0 0 0;").guess(0), -1);
         for (int sound : new int[] {-1, 1000, FAR, DEEP}) {
             DUE.is("guess(" + sound + ")", box.guess(sound), O);
@@ -251,6 +252,13 @@ public final class TriedTest {
         DUE.is("no WORDS", Due.box("b0 0 999;v1;").wake(0), 0);
         DUE.is("no WORDS", Due.box("b0 0 999;v1;").wake(1), 27);
         DUE.is("SOUND 0", Due.box("b0 0 0;w999 0 0;").wake(0), 0);
+        DUE.is("SOUND 900", Due.box("b0 0 0;w99 0 0;").wake(0), 900);
+        DUE.is("SOUND 999", Due.box("b0 0 0;w0 0 0;").wake(0), 999);
+        DUE.is("no SOUND 1000", Due.box("b0 0 0;w199 0 0;").wake(0), 900);
+        DUE.is("no SOUND 1000", Due.box("b0 0 0;w199 0 0;").wake(1), 26);
+        // the last figure is 1 from one of 0, 3, 6, 9 at most
+        DUE.is("SOUND 1", Due.box("b0 0 0;w990 0 0;w993 0 0;w996 0 0;w999 0 0;").wake(0), 1);
+        DUE.is("how far", Due.box("b0 0 0;w990 0 0;w993 0 0;w996 0 0;w999 0 0;").wake(1), 19);
         for (int what : new int[] {-1, 2, FAR, DEEP}) {
             DUE.is("wake(" + what + ")", box.wake(what), O);
         }
@@ -335,6 +343,12 @@ public final class TriedTest {
         BeansBox never = Due.box("b0 0 0;w100 0 0;w100 99 0;v0;");
         DUE.is("no SOUND: its own", never.bestCalled(0, 0), 100);
         DUE.is("no VOICES", never.bestCalled(0, 1), 0);
+        // only said as 900 (then as 0) it could be GUESSED, but the SOUND said so is 9 APART: 4 times 19 is less than 100
+        DUE.is("no SOUND 1000", Due.box("b0 0 0;w99 99 0;w500 3 0;v900;").bestCalled(1, 0), 500);
+        DUE.is("no SOUND 1000", Due.box("b0 0 0;w99 99 0;w500 3 0;v900;").bestCalled(1, 1), 0);
+        DUE.is("no SOUND -1", Due.box("b0 0 0;w999 99 0;w500 3 0;v1;").bestCalled(1, 0), 500);
+        DUE.is("no SOUND -1", Due.box("b0 0 0;w999 99 0;w500 3 0;v1;").bestCalled(1, 1), 0);
+        DUE.is("6 times 19 is more than 100", Due.box("b0 0 0;w99 99 0;w500 5 0;v900;").bestCalled(1, 0), 0);
         BeansBox mute = Due.box("b0 0 0;w321 0 0;w321 0 0;");
         DUE.is("no VOICES: its own", mute.bestCalled(1, 0), 321);
         DUE.is("no VOICES", mute.bestCalled(1, 1), 0);
