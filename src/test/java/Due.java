@@ -1,3 +1,9 @@
+import java.lang.reflect.Method;
+import java.lang.reflect.Modifier;
+import java.util.ArrayList;
+import java.util.Comparator;
+import java.util.List;
+
 /** Compares what a box answers with what is due, prints what is not, and ends with exit code 1 then. */
 final class Due {
     private final String test;
@@ -29,6 +35,18 @@ final class Due {
         if (wrong != 0) {
             System.exit(1);
         }
+    }
+
+    /** All public methods, by name. */
+    static List<Method> calls() {
+        List<Method> calls = new ArrayList<>();
+        for (Method method : BeansBox.class.getDeclaredMethods()) {
+            if (Modifier.isPublic(method.getModifiers())) {
+                calls.add(method);
+            }
+        }
+        calls.sort(Comparator.comparing(Method::getName));
+        return calls;
     }
 
     static void feed(BeansBox box, String text) {

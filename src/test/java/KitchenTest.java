@@ -225,7 +225,14 @@ public final class KitchenTest {
     }
 
     private static void faultLeavesAll() {
+        faultLeavesAll("b9 9 9;w1 1 1;w2 2 2;w3 3 3;v0;x", 1, 31);
+        faultLeavesAll("b9 9 9;w1 1 1;w2 2 2;w3 3 3;v1000;", 2, 29);
+        faultLeavesAll("b9 9 9;w1 1 1;w2 2 2;w3 3 3;v0;b9 9 9;", 3, 31);
+    }
+
+    private static void faultLeavesAll(String text, int kind, int place) {
         BeansBox box = Due.box("b1 2 3;w100 5 9;w200 6 8;v1;v2;");
+        box.keep(0);
         box.seed(77);
         box.hear(100);
         box.letBe();
@@ -235,12 +242,15 @@ public final class KitchenTest {
         box.see(0, 1);
         box.write(1, 3);
         String before = Due.shownWithSeed(box);
-        DUE.is("a text with a FAULT", Due.tell(box, "b9 9 9;w1 1 1;w2 2 2;w3 3 3;v0;x"), -11);
-        DUE.is("its place", box.fault(), 31);
+        DUE.is("a text with a FAULT", Due.tell(box, text), -10 - kind);
+        DUE.is("its place", box.fault(), place);
         DUE.is("letters", box.told(5), 0);
         DUE.holds("a FAULT leaves all as it was", before.equals(Due.shownWithSeed(box)));
         DUE.is("a FAULT leaves what can be undone", box.undo(), 0);
-        DUE.is("a FAULT leaves images", box.goBack(1), 1);
+        DUE.is("a FAULT leaves IMAGE 1", box.goBack(1), 1);
+        DUE.is("IMAGE 1", box.word(1, 0), 300);
+        DUE.is("a FAULT leaves IMAGE 0", box.goBack(0), 1);
+        DUE.is("IMAGE 0", box.word(1, 0), 200);
         DUE.is("a good text behind it", Due.tell(box, "b1 1 1;"), 0);
         DUE.is("its place", box.fault(), -1);
     }

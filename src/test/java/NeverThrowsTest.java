@@ -1,8 +1,5 @@
 import java.lang.reflect.InvocationTargetException;
 import java.lang.reflect.Method;
-import java.lang.reflect.Modifier;
-import java.util.ArrayList;
-import java.util.Comparator;
 import java.util.List;
 import java.util.Random;
 
@@ -24,17 +21,6 @@ public final class NeverThrowsTest {
         DUE.end();
     }
 
-    private static List<Method> calls() {
-        List<Method> calls = new ArrayList<>();
-        for (Method method : BeansBox.class.getDeclaredMethods()) {
-            if (Modifier.isPublic(method.getModifiers())) {
-                calls.add(method);
-            }
-        }
-        calls.sort(Comparator.comparing(Method::getName));
-        return calls;
-    }
-
     private static BeansBox used(String text) {
         BeansBox box = Due.box(text);
         box.seed(11);
@@ -49,7 +35,7 @@ public final class NeverThrowsTest {
     }
 
     private static void everyInt(String text) {
-        for (Method call : calls()) {
+        for (Method call : Due.calls()) {
             int count = call.getParameterCount();
             if (count == 0) {
                 one(used(text), call);
@@ -101,7 +87,7 @@ public final class NeverThrowsTest {
     }
 
     private static void anyRun(String text) {
-        List<Method> calls = calls();
+        List<Method> calls = Due.calls();
         Random random = new Random(text.length());
         for (int run = 0; run < 60; run++) {
             BeansBox box = new BeansBox();

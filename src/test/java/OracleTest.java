@@ -1,7 +1,5 @@
 import java.lang.reflect.Method;
-import java.lang.reflect.Modifier;
 import java.util.ArrayList;
-import java.util.Comparator;
 import java.util.List;
 import java.util.Random;
 
@@ -26,7 +24,9 @@ public final class OracleTest {
     public static void main(String[] args) throws ReflectiveOperationException {
         int runs = args.length > 0 ? Integer.parseInt(args[0]) : 400;
         for (int run = 0; run < runs; run++) {
-            new OracleTest(run).texts(12);
+            for (int i = 0; i < 6; i++) {
+                new OracleTest(10 * run + i).texts(2);
+            }
             new OracleTest(run).calls();
         }
         DUE.end();
@@ -121,13 +121,8 @@ public final class OracleTest {
     // ---- calls
 
     private void calls() throws ReflectiveOperationException {
-        List<Method> calls = new ArrayList<>();
-        for (Method method : BeansBox.class.getDeclaredMethods()) {
-            if (Modifier.isPublic(method.getModifiers()) && !List.of("feed", "kitchen").contains(method.getName())) {
-                calls.add(method);
-            }
-        }
-        calls.sort(Comparator.comparing(Method::getName));
+        List<Method> calls = Due.calls();
+        calls.removeIf(call -> List.of("feed", "kitchen").contains(call.getName()));
         // few SOUNDS and small numbers make many that are alike
         int[] sounds = {999, 99, 9, 3};
         int[] much = {99, 20, 3};

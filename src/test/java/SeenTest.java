@@ -135,7 +135,11 @@ public final class SeenTest {
             box.see(0, 1);
             box.write(0, 5);
         }
+        box.keep(1);
+        box.hear(100);
         DUE.is("both full", box.tear(), 21);
+        DUE.is("what can be undone stays", box.undo(), 0);
+        DUE.is("IMAGES stay", box.goBack(1), 1);
         DUE.is("write again", box.write(0, 0), 1);
         DUE.is("see again", box.see(0, 0), 1);
         DUE.is("without KITCHEN", new BeansBox().tear(), 0);

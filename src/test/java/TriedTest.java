@@ -112,6 +112,9 @@ public final class TriedTest {
         DUE.is("do, of eight", Due.box("b0 0 0;" + "w0 0 99;".repeat(8)).worth(0, 0), 86);
         DUE.is("not less than 1 is cut", Due.box("b0 0 0;w0 99 99;w999 27 99;").worth(0, 0), 0);
         DUE.is("1 and more", Due.box("b0 0 0;w0 99 99;w999 28 99;").worth(0, 0), 1);
+        DUE.is("a half of 50 is 25", Due.box("b0 0 0;w7 9 50;w7 9 0;").worth(7, 0), 25);
+        // 1925 of 6987 is SURE by 275511: 724489 times 98 is 70999922
+        DUE.is("a little less than 71 is cut", Due.box("b0 0 0;w3 76 98;w3 65 0;w3 75 0;w1 55 0;").worth(0, 0), 70);
         DUE.is("worth(100, 3)", box.worth(100, 3), O);
         DUE.is("worth(100, -1)", box.worth(100, -1), O);
         DUE.is("worth far", box.worth(100, FAR), O);
@@ -323,6 +326,11 @@ public final class TriedTest {
         DUE.is("to cost 7", Due.box("b9 7 0;w100 9 50;w109 9 50;v0;").needs(0, 0, 1), 35);
         DUE.is("to cost 0", Due.box("b0 7 0;w100 9 50;w109 9 50;v0;").needs(0, 0, 1), -1);
         DUE.is("K 0", Due.box("b0 0 0;w100 9 0;w109 9 50;v0;").needs(0, 0, 1), 6);
+        DUE.is("0", Due.box("b9 9 0;w100 50 9;v0;").needs(0, 0, 1), 0);
+        // 100 of 130 is SURE by 769230: of K 95 that costs 21; 99 of 129 by 767441: 22
+        DUE.is("99", Due.box("b21 21 0;w100 9 95;w100 29 0;v0;").needs(0, 0, 1), 99);
+        // 100 of 110 is SURE by 909090: of K 99 that costs 9; 101 of 111 would be 8
+        DUE.is("100 would do", Due.box("b8 8 0;w100 9 99;w100 9 0;v0;").needs(0, 0, 1), -1);
         DUE.is("the rule is to do it, but another", Due.box("b99 99 0;w100 9 0;w100 9 0;v0;").needs(1, 0, 1), 10);
         DUE.is("guessed, but never done", Due.box("b0 0 0;w100 0 99;w100 9 99;v0;").needs(0, 0, 1), -1);
         DUE.is("guessed", Due.box("b0 0 0;w100 0 99;w100 9 99;v0;").needs(0, 0, 0), 9);
@@ -349,6 +357,11 @@ public final class TriedTest {
         DUE.is("no SOUND -1", Due.box("b0 0 0;w999 99 0;w500 3 0;v1;").bestCalled(1, 0), 500);
         DUE.is("no SOUND -1", Due.box("b0 0 0;w999 99 0;w500 3 0;v1;").bestCalled(1, 1), 0);
         DUE.is("6 times 19 is more than 100", Due.box("b0 0 0;w99 99 0;w500 5 0;v900;").bestCalled(1, 0), 0);
+        // 4 times 28 is more than 100, but less than 200: the other WORD is 27 from it, farther than from any other SOUND
+        DUE.is("SOUND 999 alone", Due.box("b0 0 0;w0 99 0;w500 3 0;v0;").bestCalled(1, 0), 999);
+        DUE.is("SOUND 999 alone", Due.box("b0 0 0;w0 99 0;w500 3 0;v0;").bestCalled(1, 1), 1);
+        DUE.is("SOUND 0 alone", Due.box("b0 0 0;w999 99 0;w500 3 0;v0;").bestCalled(1, 0), 0);
+        DUE.is("SOUND 0 alone", Due.box("b0 0 0;w999 99 0;w500 3 0;v0;").bestCalled(1, 1), 1);
         BeansBox mute = Due.box("b0 0 0;w321 0 0;w321 0 0;");
         DUE.is("no VOICES: its own", mute.bestCalled(1, 0), 321);
         DUE.is("no VOICES", mute.bestCalled(1, 1), 0);
