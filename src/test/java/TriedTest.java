@@ -113,8 +113,8 @@ public final class TriedTest {
         DUE.is("not less than 1 is cut", Due.box("b0 0 0;w0 99 99;w999 27 99;").worth(0, 0), 0);
         DUE.is("1 and more", Due.box("b0 0 0;w0 99 99;w999 28 99;").worth(0, 0), 1);
         DUE.is("a half of 50 is 25", Due.box("b0 0 0;w7 9 50;w7 9 0;").worth(7, 0), 25);
-        // 1925 of 6987 is SURE by 275511: 724489 times 98 is 70999922
-        DUE.is("a little less than 71 is cut", Due.box("b0 0 0;w3 76 98;w3 65 0;w3 75 0;w1 55 0;").worth(0, 0), 70);
+        // 2210 of 7011 is SURE by 315218: 684782 times 92 is 62999944
+        DUE.is("a little less than 63 is cut", Due.box("b0 0 0;w8 97 0;w4 57 0;w2 84 92;w7 68 0;").worth(0, 0), 62);
         DUE.is("worth(100, 3)", box.worth(100, 3), O);
         DUE.is("worth(100, -1)", box.worth(100, -1), O);
         DUE.is("worth far", box.worth(100, FAR), O);
