@@ -20,6 +20,8 @@ public final class FaceTest {
 
     public static void main(String[] args) throws IOException {
         face();
+        lines();
+        sections();
         members();
         nestedClasses();
         source();
@@ -50,6 +52,40 @@ public final class FaceTest {
         Constructor<?>[] made = BeansBox.class.getDeclaredConstructors();
         DUE.holds("one public constructor", made.length == 1 && Modifier.isPublic(made[0].getModifiers())
                 && made[0].getParameterCount() == 0);
+    }
+
+    /** Each line of the document's face stands in the source as it is, in its order: constants, their values, names of numbers. */
+    private static void lines() throws IOException {
+        String code = Files.readString(SOURCE);
+        Matcher block = Pattern.compile("(?s)```java\npublic final class BeansBox \\{\n(.*?)\n\\}\n```").matcher(Files.readString(DOCUMENT));
+        DUE.holds("the document has a face", block.find());
+        int at = code.indexOf("public final class BeansBox {\n");
+        List<String> lines = block.group(1).lines().toList();
+        DUE.is("lines of the face", lines.size(), 38);
+        for (String line : lines) {
+            int next = code.indexOf("\n" + (line.endsWith(");") ? line.replace(";", " {") : line) + "\n");
+            DUE.holds("stands in its place: " + line, next >= at && at >= 0);
+            at = next;
+        }
+    }
+
+    /** "Ahead of the calls .. the interface says: ---- .." */
+    private static void sections() throws IOException {
+        String code = Files.readString(SOURCE);
+        Matcher told = Pattern.compile("Ahead of the calls (.*) the interface says: (---- .*)\\.").matcher(Files.readString(DOCUMENT));
+        int count = 0;
+        int end = 0;
+        while (told.find()) {
+            String[] names = told.group(1).replace("`", "").split(", ");
+            count += names.length;
+            int says = code.indexOf("    // " + told.group(2) + "\n");
+            int first = code.indexOf("public int " + names[0] + "(");
+            DUE.holds(told.group(2) + " is ahead of " + names[0], says > end && first > says
+                    && !code.substring(says, first).contains("public int "));
+            end = code.indexOf("public int " + names[names.length - 1] + "(");
+            DUE.holds(told.group(2) + " is ahead of " + names[names.length - 1], end >= first);
+        }
+        DUE.is("calls that sections tell", count, 36);
     }
 
     private static void members() {

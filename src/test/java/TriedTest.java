@@ -362,6 +362,10 @@ public final class TriedTest {
         DUE.is("SOUND 999 alone", Due.box("b0 0 0;w0 99 0;w500 3 0;v0;").bestCalled(1, 1), 1);
         DUE.is("SOUND 0 alone", Due.box("b0 0 0;w999 99 0;w500 3 0;v0;").bestCalled(1, 0), 0);
         DUE.is("SOUND 0 alone", Due.box("b0 0 0;w999 99 0;w500 3 0;v0;").bestCalled(1, 1), 1);
+        // by 111 888 is said 999: 4 times 25 is no more than 100
+        BeansBox last = Due.box("b0 0 0;w0 99 0;w500 3 0;v111;v222;v333;v0;");
+        DUE.is("the last of more VOICES than WORDS", last.bestCalled(1, 0), 999);
+        DUE.is("the last of more VOICES than WORDS", last.bestCalled(1, 1), 1);
         BeansBox mute = Due.box("b0 0 0;w321 0 0;w321 0 0;");
         DUE.is("no VOICES: its own", mute.bestCalled(1, 0), 321);
         DUE.is("no VOICES", mute.bestCalled(1, 1), 0);
@@ -398,6 +402,12 @@ public final class TriedTest {
         DUE.is("with CROSS 1", box.asks(11), 1);
         DUE.is("with CROSS 1", box.asks(22), 1);
         DUE.is("with CROSS 1", box.asks(23), 2);
+        BeansBox more = Due.box("b1 2 0;w100 10 0;w500 10 99;");
+        DUE.is("done, asked, done", 100 * more.hear(100) + 10 * more.hear(500) + more.hear(0), 10);
+        DUE.is("CROSS 1, not HEARD 3", more.asks(1), 0);
+        DUE.is("CROSS 1, not HEARD 3", more.asks(2), 1);
+        DUE.is("CROSS 1, not HEARD 3", more.asks(4), 1);
+        DUE.is("CROSS 1, not HEARD 3", more.asks(5), 2);
         BeansBox none = new BeansBox();
         DUE.is("for nothing the first time", none.asks(0), 1);
         DUE.is("1 the second time", none.asks(1), 2);
